@@ -1578,17 +1578,26 @@ public final class LentNames {
 
         private void tryLoans(int chosenSoFar, int name, int body, int from, int to) {
             int free = calendar.alive[body] & ~calendar.borneDays[pair(name, body)] & ~taken[name];
+            int mayEnd = ends[name] & free;
             for (int first = 0; first <= to && first < DAYS; first++) {
-                for (int last = Math.max(first, from); last < DAYS && !isOver(); last++) {
-                    int days = span(first, last);
-                    if (hasBit(ends[name], first) && hasBit(ends[name], last) && (days & ~free) == 0) {
-                        chosen[chosenSoFar] = 10000 * name + 1000 * body + 20 * first + last;
-                        give(name, body, days);
-                        come(chosenSoFar + 1);
-                        giveBack(name, days);
+                if (!hasBit(mayEnd, first)) {
+                    continue;
+                }
+                // All DAYS from the first one on must be free, so the first that is not ends them.
+                for (int last = first; last < DAYS && hasBit(free, last) && !isOver(); last++) {
+                    if (last >= from && hasBit(mayEnd, last)) {
+                        tryLoan(chosenSoFar, name, body, first, last);
                     }
                 }
             }
+        }
+
+        private void tryLoan(int chosenSoFar, int name, int body, int first, int last) {
+            int days = (1 << last + 1) - (1 << first);
+            chosen[chosenSoFar] = 10000 * name + 1000 * body + 20 * first + last;
+            give(name, body, days);
+            come(chosenSoFar + 1);
+            giveBack(name, days);
         }
 
         private boolean isOver() {
@@ -1610,10 +1619,6 @@ public final class LentNames {
                 }
                 found[place] = chosen[k];
             }
-        }
-
-        private static int span(int first, int last) {
-            return (1 << last + 1) - (1 << first);
         }
 
         private void give(int name, int body, int days) {
