@@ -1196,6 +1196,7 @@ public final class LentNames {
             town = told;
             begin();
             for (int day = 0; day < DAYS; day++) {
+                // Who is dead on a DAY is fixed from the begin, so nothing is done for the burials between.
                 endLoans(day);
                 if (hasBit(town.courts, day)) {
                     holdCourt(day);
@@ -1369,15 +1370,15 @@ public final class LentNames {
             asked[ASK_DAYS] = town.loans.at(loan, LOAN_FOR);
             asked[ASK_PLEDGE] = town.loans.at(loan, LOAN_PLEDGE);
             asked[ASK_DEEP] = deep[name];
-            asked[ASK_GIVES] = bornNow(bearer);
-            asked[ASK_TAKES] = bornNow(body);
+            asked[ASK_GIVES] = borneNow(bearer);
+            asked[ASK_TAKES] = borneNow(body);
             asked[ASK_OWN] = bearer == name ? 1 : 0;
             asked[ASK_MINE] = body == name ? 1 : 0;
             return town.custom.grants(asked);
         }
 
-        // Asked of bodies that live alone: a NAME whose last one lives is not BURIED.
-        private int bornNow(int body) {
+        // Asked only of bodies that live: a NAME whose last one lives is not BURIED.
+        private int borneNow(int body) {
             int names = 0;
             for (int name = 0; name < town.people; name++) {
                 if (lastOf(name) == body) {

@@ -85,11 +85,7 @@ final class PlainTown {
 
     // ---- texts ----
 
-    record Token(int at, String text) {
-        boolean isNumber() {
-            return Character.isDigit(text.charAt(0));
-        }
-    }
+    record Token(int at, String text) { }
 
     static final class Wrong extends Exception {
         private static final long serialVersionUID = 1;

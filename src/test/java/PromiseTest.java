@@ -20,6 +20,7 @@ public final class PromiseTest {
         end();
         tell();
         townFaults();
+        textsTooShort();
         customFaults();
         room();
         people();
@@ -209,6 +210,57 @@ public final class PromiseTest {
         townFault("seen 0 day 1 known 1", 13);
         townFault("seen 0 day 5 as 1 known 4", 24);
         townFault("grant", 0);
+        townFault("lend 4 to 0 day 0 for 1", 5);
+        townFault("lend 0 to 4 day 0 for 1", 10);
+        townFault("lend 0 to 1 day 12 for 1", 16);
+        townFault("lend 0 to 1 day 0 for 13", 22);
+        townFault("lend 0 to 1 day 0 for 0", 22);
+        townFault("dies 0 day 12", 11);
+        townFault("court day 12", 10);
+        townFault("letter 4 day 0 read 0", 7);
+        townFault("letter 0 day 12 read 12", 13);
+        townFault("letter 0 day 0 read 12", 20);
+        townFault("debt name 4 day 0 judged 0 of 1", 10);
+        townFault("debt body 4 day 0 judged 0 of 1", 10);
+        townFault("debt body 0 day 12 judged 12 of 1", 16);
+        townFault("debt body 0 day 0 judged 0 of 1000", 30);
+        townFault("seen 4 day 0 as 0 known 0", 5);
+        townFault("seen 0 day 12 as 0 known 12", 11);
+        townFault("seen 0 day 0 as 0 known 12", 24);
+        townFault("seen 0 day 0 as 0 or 4 known 0", 21);
+    }
+
+    /** A text that ends where more must come, is wrong at its length, and one with a sign there at that sign. */
+    private static void textsTooShort() {
+        String[] lines = {"lend 0 to 1 day 2 for", "lend 0 to 1 day 2 for 3 on pledge", "dies 1 day", "court day", "letter 0 day 1 read",
+            "debt name 0 day 1 judged 2 of", "debt body 0 day 1 judged 2 of", "seen 0 day 1 as 0 or 1 or", "seen 0 day 1 as 0 or 1 known"};
+        String[] whole = {"lend 0 to 1 day 2 for 3", "lend 0 to 1 day 2 for 3 on"};
+        for (String line : lines) {
+            for (int cut = line.length(); cut > 0; cut = line.lastIndexOf(' ', cut - 1)) {
+                String text = line.substring(0, cut);
+                if (!text.equals(whole[0]) && !text.equals(whole[1])) {
+                    townFault(text, cut);
+                    townFault(text + "  ", cut + 2);
+                    townFault(text + " ;", cut + 1);
+                }
+                townFault(text + " +", cut + 1);
+            }
+        }
+        String[] customs = {"grant if own or mine or", "grant if own and mine and", "refuse if ( own or ( not mine )", "refuse if not ( not",
+            "grant if day + days + 3 <", "grant if day + days +", "grant if day > pledge +"};
+        for (String line : customs) {
+            for (int cut = line.length(); cut > 0; cut = line.lastIndexOf(' ', cut - 1)) {
+                String text = line.substring(0, cut);
+                boolean wants = !text.equals("grant") && !text.equals("refuse") && !text.endsWith(" own") && !text.endsWith(" mine")
+                    && !text.endsWith("> pledge");
+                if (wants || text.contains("(")) {
+                    customFault(text, cut);
+                    customFault(text + "  ", cut + 2);
+                    customFault(text + " ;", cut + 1);
+                }
+                customFault(text + " court", cut + 1);
+            }
+        }
     }
 
     private static void townFault(String text, int at) {
@@ -272,7 +324,7 @@ public final class PromiseTest {
         roomFor("debt name 0 day 0 judged 0 of 1", 4);
         roomFor("seen 0 day 0 as 0 known 0", 5);
         LentNames y = new LentNames();
-        write(y, times(14, "court day 1") + "; x");
+        write(y, times(14, "court day 1") + "; court day 1");
         dueThrow("a 15th line", BAD_ARGUMENT, y::tell);
         due("its first word", y.fault(), 169);
         write(y, times(14, "court day 1"));
@@ -638,6 +690,12 @@ public final class PromiseTest {
         due("all bounds but the widest are spent", y.plan(11, NONE), -2);
         due("spent", y.plan(0, 0), -2);
         due("twelve days are borne", y.plan(12, NONE), 0);
+        // No hand counts these: PlainTown comes to the first set with STEP 20000 here, and with STEP 20001 there.
+        LentNames edge = town(6, "lend 3 to 4 day 5 for 3;lend 4 to 5 day 6 for 10");
+        due("20000 steps", edge.plan(0, NONE), 2);
+        due("20000 steps", edge.plan(0, 0), 33107);
+        LentNames beyond = town(6, "lend 4 to 5 day 4 for 9;lend 3 to 4 day 5 for 3");
+        due("20001 steps", beyond.plan(0, NONE), -2);
     }
 
     // ---- promises 29 to 32 ----
