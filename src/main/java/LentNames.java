@@ -138,6 +138,7 @@ public final class LentNames {
         }
         draft.texts++;
         takeDraft();
+        renew();
         return town.texts;
     }
 
@@ -153,6 +154,7 @@ public final class LentNames {
             throw new IllegalArgumentException("the text of the custom is wrong");
         }
         takeDraft();
+        renew();
         return town.custom.lines;
     }
 
@@ -528,7 +530,6 @@ public final class LentNames {
         Town before = town;
         town = draft;
         draft = before;
-        renew();
     }
 
     private void renew() {
@@ -592,8 +593,7 @@ public final class LentNames {
         }
 
         void rewind() {
-            place = 0;
-            skipBlanks();
+            moveTo(0);
         }
 
         boolean isOver() {
@@ -613,13 +613,16 @@ public final class LentNames {
         }
 
         boolean isWord(String word) {
-            for (int k = 0; k < word.length(); k++) {
-                if (byteAt(place + k) != word.charAt(k)) {
+            int end = place + word.length();
+            if (end > size) {
+                return false;
+            }
+            for (int k = place; k < end; k++) {
+                if (bytes[k] != word.charAt(k - place)) {
                     return false;
                 }
             }
-            int behind = byteAt(place + word.length());
-            return behind < 'a' || behind > 'z';
+            return end == size || bytes[end] < 'a' || bytes[end] > 'z';
         }
 
         boolean takesWord(String word) {
@@ -648,17 +651,13 @@ public final class LentNames {
         // The place is always behind blanks, so that it tells the begin of the next thing.
         private void moveTo(int next) {
             place = next;
-            skipBlanks();
-        }
-
-        private void skipBlanks() {
-            while (place < size && byteAt(place) == ' ') {
+            while (place < size && bytes[place] == ' ') {
                 place++;
             }
         }
 
         private int byteAt(int k) {
-            return k >= 0 && k < size && k < MOST_BYTES ? bytes[k] : NONE;
+            return k < size ? bytes[k] : NONE;
         }
 
         private static boolean isDigit(int sign) {
@@ -694,11 +693,13 @@ public final class LentNames {
         }
 
         int at(int row, int column) {
-            return has(row, column) ? cells[row * columns + column] : NONE;
+            boolean isThere = row >= 0 && row < count && column >= 0 && column < columns;
+            return isThere ? cells[row * columns + column] : NONE;
         }
 
         void put(int row, int column, int value) {
-            if (has(row, column)) {
+            boolean isThere = row >= 0 && row < count && column >= 0 && column < columns;
+            if (isThere) {
                 cells[row * columns + column] = value;
             }
         }
@@ -706,10 +707,6 @@ public final class LentNames {
         void copyRows(Table other) {
             count = other.count;
             System.arraycopy(other.cells, 0, cells, 0, Math.min(cells.length, other.cells.length));
-        }
-
-        private boolean has(int row, int column) {
-            return row >= 0 && row < count && column >= 0 && column < columns;
         }
     }
 
@@ -1120,10 +1117,6 @@ public final class LentNames {
             if (tape.takesWord("mine")) {
                 return custom.append(ASK + ASK_MINE);
             }
-            return readComparison();
-        }
-
-        private boolean readComparison() {
             if (!readSum()) {
                 return false;
             }
@@ -1150,27 +1143,29 @@ public final class LentNames {
             if (value != NONE) {
                 return custom.append(value);
             }
-            int asked = takesAsked();
-            return asked != NONE && custom.append(ASK + asked);
+            for (int asked = ASK_DAY; asked <= ASK_TAKES; asked++) {
+                if (tape.takesWord(askedWord(asked))) {
+                    return custom.append(ASK + asked);
+                }
+            }
+            return false;
         }
 
-        private int takesAsked() {
-            if (tape.takesWord("day")) {
-                return ASK_DAY;
+        private static String askedWord(int asked) {
+            switch (asked) {
+                case ASK_DAY:
+                    return "day";
+                case ASK_DAYS:
+                    return "days";
+                case ASK_PLEDGE:
+                    return "pledge";
+                case ASK_DEEP:
+                    return "deep";
+                case ASK_GIVES:
+                    return "gives";
+                default:
+                    return "takes";
             }
-            if (tape.takesWord("days")) {
-                return ASK_DAYS;
-            }
-            if (tape.takesWord("pledge")) {
-                return ASK_PLEDGE;
-            }
-            if (tape.takesWord("deep")) {
-                return ASK_DEEP;
-            }
-            if (tape.takesWord("gives")) {
-                return ASK_GIVES;
-            }
-            return tape.takesWord("takes") ? ASK_TAKES : NONE;
         }
     }
 
@@ -1186,6 +1181,9 @@ public final class LentNames {
         private final int[] bearers = new int[MOST_PEOPLE * DAYS];
         private final int[] states = new int[MOST_PEOPLE * DAYS];
         private final int[] rows = new int[MOST_PEOPLE * DAYS * MOST_IN_ROW];
+        // Of each LOAN the last DAY by RIGHT, and its LAST DAY.
+        private final int[] rightDays = new int[MOST_LOANS];
+        private final int[] lastDays = new int[MOST_LOANS];
         // The ROWS of the DAY at hand: the LOANS of each NAME, and how many.
         private final int[] chain = new int[MOST_PEOPLE * MOST_LOANS];
         private final int[] deep = new int[MOST_PEOPLE];
@@ -1292,6 +1290,8 @@ public final class LentNames {
                 lender[loan] = NONE;
                 endedOn[loan] = NONE;
                 owed[loan] = 0;
+                rightDays[loan] = town.rightDay(loan);
+                lastDays[loan] = town.lastDay(loan);
             }
             for (int body = 0; body < MOST_PEOPLE; body++) {
                 alive[body] = ALL_DAYS & (1 << town.diesOn[body]) - 1;
@@ -1305,7 +1305,7 @@ public final class LentNames {
         private void endLoans(int day) {
             for (int name = 0; name < town.people; name++) {
                 for (int k = 0; k < deep[name]; k++) {
-                    if (day > town.lastDay(loanAt(name, k))) {
+                    if (day > lastDays[loanAt(name, k)]) {
                         endFrom(name, k, day);
                         break;
                     }
@@ -1332,7 +1332,7 @@ public final class LentNames {
             for (int name = 0; name < town.people; name++) {
                 for (int k = 0; k < deep[name]; k++) {
                     int loan = loanAt(name, k);
-                    if (day > town.rightDay(loan)) {
+                    if (day > rightDays[loan]) {
                         owed[loan] += town.loans.at(loan, LOAN_PLEDGE);
                     }
                 }
@@ -1342,7 +1342,8 @@ public final class LentNames {
         private void lendNames(int day) {
             for (int loan = 0; loan < town.loans.count; loan++) {
                 int name = town.loans.at(loan, LOAN_NAME);
-                if (town.loans.at(loan, LOAN_DAY) == day && mayBegin(loan, name, day)) {
+                boolean isToday = town.loans.at(loan, LOAN_DAY) == day;
+                if (isToday && mayBegin(loan, name, day) && isGranted(loan, name, day)) {
                     lender[loan] = lastOf(name);
                     chain[name * MOST_LOANS + deep[name]] = loan;
                     deep[name]++;
@@ -1356,7 +1357,7 @@ public final class LentNames {
             if (deep[name] >= MOST_LOANS || bearer == body || !isAlive(body, day)) {
                 return false;
             }
-            return isBorneByRight(name, day) && (bearer == name || isLentOn(name)) && isGranted(loan, name, day);
+            return isBorneByRight(name, day) && (bearer == name || isLentOn(name));
         }
 
         private boolean isLentOn(int name) {
@@ -1424,7 +1425,7 @@ public final class LentNames {
 
         private boolean isOverdue(int name, int day) {
             for (int k = 0; k < deep[name]; k++) {
-                if (day > town.rightDay(loanAt(name, k))) {
+                if (day > rightDays[loanAt(name, k)]) {
                     return true;
                 }
             }

@@ -1,19 +1,5 @@
-import java.util.NoSuchElementException;
-
 /** The promises one by one, with answers that were worked out by hand from the document. */
-public final class PromiseTest {
-    private static final int NONE = LentNames.NONE;
-    private static final Class<?> NO_INDEX = IndexOutOfBoundsException.class;
-    private static final Class<?> BAD_ARGUMENT = IllegalArgumentException.class;
-    private static final Class<?> BAD_STATE = IllegalStateException.class;
-    private static final Class<?> NO_ELEMENT = NoSuchElementException.class;
-    private static final Class<?> NO_ROOM = UnsupportedOperationException.class;
-    private static int wrong = 0;
-
-    private interface Call {
-        void go();
-    }
-
+public final class PromiseTest extends Check {
     public static void main(String[] args) {
         newObject();
         feed();
@@ -40,56 +26,7 @@ public final class PromiseTest {
         secretsThatAreNoneOrSpent();
         namesBorneBackToOwners();
         image();
-        System.exit(wrong == 0 ? 0 : 1);
-    }
-
-    private static void due(String what, long got, long want) {
-        if (got != want) {
-            wrong++;
-            System.out.println(what + " answered " + got + ", due is " + want);
-        }
-    }
-
-    private static void due(String what, boolean got, boolean want) {
-        due(what, got ? 1 : 0, want ? 1 : 0);
-    }
-
-    private static void dueThrow(String what, Class<?> want, Call call) {
-        Class<?> got = null;
-        try {
-            call.go();
-        } catch (RuntimeException e) {
-            got = e.getClass();
-        }
-        if (got != want) {
-            wrong++;
-            System.out.println(what + " threw " + got + ", due is " + want);
-        }
-    }
-
-    private static void write(LentNames x, String text) {
-        for (int from = 0; from == 0 || from < text.length(); from += 20) {
-            int[] n = new int[5];
-            for (int k = 0; k < 20; k++) {
-                n[k / 4] = n[k / 4] << 8 | (from + k < text.length() ? text.charAt(from + k) : 0);
-            }
-            x.feed(n[0], n[1], n[2], n[3], n[4]);
-        }
-        due("end of " + text, x.end(text.length()), true);
-    }
-
-    private static LentNames town(int people, String... texts) {
-        LentNames x = new LentNames();
-        x.people(people);
-        for (String text : texts) {
-            write(x, text);
-            x.tell();
-        }
-        return x;
-    }
-
-    private static String times(int n, String line) {
-        return String.join(";", java.util.Collections.nCopies(n, line));
+        exit();
     }
 
     // ---- promise 1 ----
