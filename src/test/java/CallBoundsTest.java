@@ -308,6 +308,25 @@ public final class CallBoundsTest extends Check {
         }
         x.back();
         due("texts can be told again", tell(x, "dies 5 day 0"), 1);
+        // What those did who are not there any more is gone with them.
+        LentNames y = town(3);
+        y.image();
+        y.people(6);
+        tell(y, "lend 3 to 0 day 1 for 1;lend 4 to 5 day 1 for 1;lend 5 to 0 day 0 for 12;dies 4 day 3;dies 2 day 5");
+        due("the busiest of six", y.busiest(), 4);
+        y.back();
+        dueSame("back to three", answers(y), answers(three()));
+        y.back();
+        due("the busiest of three", y.busiest(), 0);
+        due("rich", y.rich(1), 0);
+        due("names", y.names(0, 1), 1);
+        due("way", y.way(2, false), 4);
+    }
+
+    private static LentNames three() {
+        LentNames x = town(3);
+        x.image();
+        return x;
     }
 
     // ---- promise 38 ----

@@ -36,6 +36,8 @@ public final class DayBoundsTest extends Check {
         richAndBorne();
         ownersAgain();
         wholeRows();
+        sixBodies();
+        twentyLoans();
         exit();
     }
 
@@ -565,6 +567,13 @@ public final class DayBoundsTest extends Check {
         due(condition, x.look(0, 4) == 1, want);
     }
 
+    /** As holds(), for a loan by which a name comes back to its owner. */
+    private static void holdsBack(String condition, boolean want) {
+        LentNames x = town(2, "lend 0 to 1 day 0 for 2 on;lend 0 to 0 day 1 for 1");
+        custom(x, "grant if day < 1;refuse if " + condition);
+        due(condition, x.look(1, 4) == 1, want);
+    }
+
     private static void andOrNot() {
         String[] yes = {"own", "1 < 2", "2 > 1", "not mine", "(own)", "not not own", "not 1 < 1", "not 1 > 1"};
         String[] no = {"mine", "2 < 1", "1 > 2", "not own", "(mine)", "not not mine", "1 < 1", "1 > 1"};
@@ -590,6 +599,14 @@ public final class DayBoundsTest extends Check {
                 holds(n + " or " + other, false);
                 holds("not (" + n + " or " + other + ")", true);
             }
+        }
+        for (String y : new String[] {"mine", "not own", "1 < 2", "not (own)"}) {
+            holdsBack("mine and " + y, true);
+            holdsBack(y + " and mine", true);
+            holdsBack("not mine and " + y, false);
+            holdsBack("own or " + y, true);
+            holdsBack(y + " or own", true);
+            holdsBack("not mine or not " + y, false);
         }
         // "and" is within "or", and "not" takes one ATOM alone.
         holds("own or own and mine", true);
@@ -806,6 +823,59 @@ public final class DayBoundsTest extends Check {
         int[] second = {NONE, 1, 1, NONE};
         for (int day = 0; day < 4; day++) {
             due("the second of the row", z.row(0, day, 1), second[day]);
+        }
+    }
+
+    // ---- the most BODIES and the most LOANS: the last ones are as the others ----
+
+    private static void sixBodies() {
+        StringBuilder s = new StringBuilder();
+        for (int k = 0; k < 6; k++) {
+            s.append(k == 0 ? "" : ";").append("lend ").append(k).append(" to ").append((k + 1) % 6).append(" day ").append(k + 1).append(" for 1");
+        }
+        LentNames x = town(6, s.toString());
+        for (int k = 0; k < 6; k++) {
+            int next = (k + 1) % 6;
+            due("way " + k, x.way(k, false), 1 << k | 1 << next);
+            due("hands " + k, x.way(k, true), 2);
+            due("nameless " + k, x.nameless(k), 2 << k);
+            due("names " + next, x.names(next, k + 1), 1 << k | 1 << next);
+            due("rich " + k, x.rich(k + 1), 1 << next);
+            due("borne " + k, x.borne(k, k), 11);
+            due("borne " + k, x.borne(k, next), 1);
+            due("again " + k, x.again(k, k + 1), k + 2);
+        }
+        due("busiest", x.busiest(), 0);
+        LentNames all = town(6, "lend 0 to 5 day 0 for 12;lend 1 to 5 day 0 for 12;lend 2 to 5 day 0 for 12;lend 3 to 5 day 0 for 12;lend 4 to 5 day 0 for 12");
+        due("all names", all.names(5, 11), 63);
+        due("one is rich", all.rich(11), 32);
+        due("gives none", all.names(4, 11), 0);
+        LentNames court = town(6, "lend 5 to 4 day 0 for 2;late 0 by 9;lend 0 to 5 day 0 for 12;dies 5 day 3;court day 3");
+        bearers(court, 5, "444---------");
+        hows(court, 5, "112333333333");
+        bearers(court, 0, "555000000000");
+        ended(court, 3, 3);
+    }
+
+    private static void twentyLoans() {
+        LentNames x = town(6, times(14, "lend 0 to 0 day 0 for 1"), times(5, "lend 0 to 0 day 0 for 1") + ";lend 5 to 4 day 0 for 1 pledge 7;late 19 by 1");
+        due("refused", x.count(6), 19);
+        due("the last one began", x.look(19, 5), 5);
+        due("it ended", x.look(19, 6), 2);
+        due("it is owed by", x.owes(4, false), 7);
+        due("it is owed to", x.owes(5, true), 7);
+        due("not by another", x.owes(0, false), 0);
+        due("not to another", x.owes(0, true), 0);
+        String six = String.join(";", "lend 5 to 4 day 0 for 12 on", "lend 5 to 5 day 0 for 12 on", "lend 5 to 4 day 0 for 12 on",
+            "lend 5 to 5 day 0 for 12 on", "lend 5 to 4 day 0 for 12 on", "lend 5 to 5 day 0 for 12 on");
+        LentNames row = town(6, six + ";" + six, six + ";lend 5 to 4 day 0 for 12 on;lend 5 to 5 day 0 for 11 on");
+        due("none is refused", row.count(6), 0);
+        due("the last of the row", row.row(5, 10, 20), 5);
+        due("till its end", row.row(5, 11, 20), NONE);
+        due("its bearer", row.bears(5, 10), 5);
+        due("its bearer then", row.bears(5, 11), 4);
+        for (int loan = 0; loan < 20; loan++) {
+            due("end " + loan, row.look(loan, 6), loan == 19 ? 11 : NONE);
         }
     }
 }

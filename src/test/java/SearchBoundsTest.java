@@ -28,6 +28,7 @@ public final class SearchBoundsTest extends Check {
         secretsOf20000Steps();
         partsOfSecrets();
         secretsFollowWhatIsTold();
+        lastNameAndBody();
         exit();
     }
 
@@ -520,5 +521,23 @@ public final class SearchBoundsTest extends Check {
         x.back();
         secrets("back", x, 5, 2, more(0, 1, 3, 3));
         secrets("another day", x, 4, 1);
+    }
+
+    // ---- the last of six NAMES and BODIES is as the others ----
+
+    private static void lastNameAndBody() {
+        plan("a wish", wished(6, "", letter(5, 11, 4)), 12, more(5, 4, 0, 11));
+        plan("a wish", wished(6, "", letter(4, 0, 5)), 12, more(4, 5, 0, 0));
+        plan("nameless", town(6, "lend 5 to 4 day 0 for 12"), 11, more(0, 5, 0, 0));
+        plan("not nameless", town(6, "lend 5 to 4 day 0 for 12"), 12);
+        // Nobody else may be without: only NAME 5 itself, or one that another has besides, will do.
+        plan("nameless on no day", town(6, "lend 5 to 4 day 0 for 12"), 0, more(4, 5, 0, 11));
+        secrets("seen", town(6, "seen 5 day 11 as 4 known 11"), 11, 1, more(5, 4, 11, 11));
+        secrets("seen", town(6, "seen 4 day 11 as 5 known 11"), 11, 1, more(4, 5, 11, 11));
+        secrets("seen", town(2, "seen 1 day 0 as 0 known 0"), 0, 1, more(1, 0, 0, 0));
+        LentNames ten = town(6, times(9, "seen 0 day 0 as 0 known 0") + ";seen 5 day 2 as 4 known 2");
+        due("the tenth", ten.agree(), 511);
+        due("the tenth", ten.can(9), 16);
+        secrets("the tenth", ten, 2, 1, more(5, 4, 2, 2));
     }
 }

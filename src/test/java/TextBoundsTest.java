@@ -724,6 +724,12 @@ public final class TextBoundsTest extends Check {
         due("six of not", x.count(6), 2);
         custom(x, "refuse if (not (not (not 1 < 2)))");
         due("three of not", x.count(6), 0);
+        // On each of the seven levels both an "or" and an "and" wait for what is deeper.
+        String waits = "2 < 1 or 1 < 2 and ";
+        custom(x, "refuse if " + (waits + "(").repeat(6) + waits + "1 + 1 > 1 + 0" + ")".repeat(6));
+        due("all wait", x.count(6), 2);
+        custom(x, "refuse if " + (waits + "(").repeat(6) + waits + "1 + 1 > 1 + 1" + ")".repeat(6));
+        due("all wait", x.count(6), 0);
     }
 
     // ---- CUSTOM: words, and what cannot stand where ----
