@@ -48,17 +48,34 @@ public final class CallBoundsTest extends Check {
         return x;
     }
 
+    /** The same with a text on its tape that was not read yet, and a fault of one that was. */
+    private static LentNames fullWithTape() {
+        LentNames x = full();
+        write(x, "court day");
+        dueThrow("wrong", BAD_ARGUMENT, x::tell);
+        write(x, "court day 3");
+        return x;
+    }
+
+    /** A deed that reads no text is refused with that exception, and leaves all as it was, the TAPE and fault() too. */
+    private static void refusedQuietly(String what, Class<?> want, Deed deed) {
+        LentNames x = fullWithTape();
+        dueThrow(what, want, () -> deed.doTo(x));
+        due("the fault behind " + what, x.fault(), 9);
+        refused(what, want, CallBoundsTest::fullWithTape, deed);
+    }
+
     /** 0 and the last one are there; what lies on both sides of them is refused, and that leaves all as it was. */
     private static void bounded(String what, int count, With with) {
         LentNames x = full();
         with.call(x, 0);
         with.call(x, count - 1);
         for (int k : new int[] {-1, count, count + 1, Integer.MIN_VALUE, Integer.MAX_VALUE}) {
-            refused(what + " of " + k, NO_INDEX, CallBoundsTest::full, y -> with.call(y, k));
+            refusedQuietly(what + " of " + k, NO_INDEX, y -> with.call(y, k));
         }
         // A call that only asks leaves all as it was, too.
         if (!what.startsWith("purse") && !what.startsWith("wish")) {
-            idle(what, CallBoundsTest::full, y -> with.call(y, count - 1));
+            idle(what, CallBoundsTest::fullWithTape, y -> with.call(y, count - 1));
         }
     }
 
@@ -114,7 +131,7 @@ public final class CallBoundsTest extends Check {
         bounded("can: the sighting", SIGHTINGS, (x, k) -> x.can(k));
         // There are as many bodies, and NONE besides.
         for (int body : new int[] {-2, PEOPLE, Integer.MIN_VALUE, Integer.MAX_VALUE}) {
-            refused("wish: the body " + body, NO_INDEX, CallBoundsTest::full, x -> x.wish(0, body));
+            refusedQuietly("wish: the body " + body, NO_INDEX, x -> x.wish(0, body));
         }
         LentNames x = full();
         due("the last body", x.wish(1, PEOPLE - 1), NONE);
@@ -149,15 +166,15 @@ public final class CallBoundsTest extends Check {
             x.look(0, what);
         }
         for (int what : new int[] {-1, 8, 9, Integer.MIN_VALUE, Integer.MAX_VALUE}) {
-            refused("look(0, " + what + ")", NO_ELEMENT, CallBoundsTest::full, y -> y.look(0, what));
-            refused("look(3, " + what + ")", NO_ELEMENT, CallBoundsTest::full, y -> y.look(LOANS - 1, what));
+            refusedQuietly("look(0, " + what + ")", NO_ELEMENT, y -> y.look(0, what));
+            refusedQuietly("look(3, " + what + ")", NO_ELEMENT, y -> y.look(LOANS - 1, what));
         }
         for (int what = 0; what < 3; what++) {
             x.letter(0, what);
         }
         for (int what : new int[] {-1, 3, 4, Integer.MIN_VALUE, Integer.MAX_VALUE}) {
-            refused("letter(0, " + what + ")", NO_ELEMENT, CallBoundsTest::full, y -> y.letter(0, what));
-            refused("letter(1, " + what + ")", NO_ELEMENT, CallBoundsTest::full, y -> y.letter(LETTERS - 1, what));
+            refusedQuietly("letter(0, " + what + ")", NO_ELEMENT, y -> y.letter(0, what));
+            refusedQuietly("letter(1, " + what + ")", NO_ELEMENT, y -> y.letter(LETTERS - 1, what));
         }
         for (int what : new int[] {-1, -2, 12, 13, Integer.MIN_VALUE, Integer.MAX_VALUE}) {
             due("count(" + what + ")", x.count(what), NONE);
@@ -167,15 +184,15 @@ public final class CallBoundsTest extends Check {
     // ---- "Of several exceptions the one told first is thrown" ----
 
     private static void firstOfSeveralExceptions() {
-        refused("look of none, another what", NO_INDEX, CallBoundsTest::full, x -> x.look(LOANS, 8));
-        refused("letter of none, another what", NO_INDEX, CallBoundsTest::full, x -> x.letter(LETTERS, 3));
-        refused("purse of none, that is none", NO_INDEX, CallBoundsTest::full, x -> x.purse(PEOPLE, 10000));
-        refused("a purse that is none", BAD_ARGUMENT, CallBoundsTest::full, x -> x.purse(PEOPLE - 1, 10000));
-        refused("secrets by none, what below -2", NO_INDEX, CallBoundsTest::full, x -> x.secrets(12, -3));
-        refused("what below -2", BAD_ARGUMENT, CallBoundsTest::full, x -> x.secrets(11, -3));
-        refused("people that are none, behind texts", BAD_ARGUMENT, CallBoundsTest::full, x -> x.people(7));
-        refused("people behind texts", BAD_STATE, CallBoundsTest::full, x -> x.people(6));
-        refused("a bound that is none, k below NONE", BAD_ARGUMENT, CallBoundsTest::full, x -> x.plan(13, -2));
+        refusedQuietly("look of none, another what", NO_INDEX, x -> x.look(LOANS, 8));
+        refusedQuietly("letter of none, another what", NO_INDEX, x -> x.letter(LETTERS, 3));
+        refusedQuietly("purse of none, that is none", NO_INDEX, x -> x.purse(PEOPLE, 10000));
+        refusedQuietly("a purse that is none", BAD_ARGUMENT, x -> x.purse(PEOPLE - 1, 10000));
+        refusedQuietly("secrets by none, what below -2", NO_INDEX, x -> x.secrets(12, -3));
+        refusedQuietly("what below -2", BAD_ARGUMENT, x -> x.secrets(11, -3));
+        refusedQuietly("people that are none, behind texts", BAD_ARGUMENT, x -> x.people(7));
+        refusedQuietly("people behind texts", BAD_STATE, x -> x.people(6));
+        refusedQuietly("a bound that is none, k below NONE", BAD_ARGUMENT, x -> x.plan(13, -2));
         refused("a wrong text", BAD_ARGUMENT, CallBoundsTest::full, x -> tell(x, "court day 12"));
         refused("a wrong custom", BAD_ARGUMENT, CallBoundsTest::full, x -> custom(x, "grant;court"));
     }

@@ -44,10 +44,11 @@ public final class DayBoundsTest extends Check {
     // ---- helpers: a sign for each DAY, '-' for NONE ----
 
     private static void bearers(LentNames x, int name, String signs) {
+        int people = x.count(0);
         for (int day = 0; day < 12; day++) {
             int want = signs.charAt(day) == '-' ? NONE : signs.charAt(day) - '0';
             due("bears(" + name + ", " + day + ")", x.bears(name, day), want);
-            for (int body = 0; body < x.count(0); body++) {
+            for (int body = 0; body < people; body++) {
                 due("names(" + body + ", " + day + ")", (x.names(body, day) >> name & 1) == 1, body == want);
             }
         }
@@ -89,7 +90,7 @@ public final class DayBoundsTest extends Check {
             x.people(n);
             due("N", x.count(0), n);
             for (int k = 0; k < n; k++) {
-                bearers(x, k, String.valueOf(k).repeat(12));
+                bearers(town(n), k, String.valueOf(k).repeat(12));
             }
             int none = n;
             dueThrow("no name " + n, NO_INDEX, () -> x.bears(none, 0));

@@ -8,7 +8,8 @@ import java.util.TreeMap;
 
 /** Runs of drawn calls (always the same) on LentNames and on PlainTown: both must answer alike. */
 public final class ModelTest {
-    private static final int RUNS = Integer.getInteger("runs", 120);
+    private static final int RUNS = Integer.getInteger("runs", 160);
+    private static final int MOST_CALLS = 512;
     private static final long SEED = Long.getLong("seed", 1);
     private static final List<Method> QUERIES = new ArrayList<>();
     private static final Map<String, Method> OF_REAL = new TreeMap<>();
@@ -52,11 +53,15 @@ public final class ModelTest {
             call("people", random.nextInt(7) + 1);
             people = model.facts.n;
         }
-        for (int step = 0; step < 40 && wrong == before; step++) {
+        // A text takes up to 23 calls: with more than 470 no other one is begun.
+        while (log.size() < MOST_CALLS - 42 && wrong == before) {
             change();
             for (int k = 0; k < 10 && wrong == before; k++) {
                 query();
             }
+        }
+        while (log.size() < MOST_CALLS && wrong == before) {
+            query();
         }
         if (wrong != before) {
             log.forEach(System.out::println);
