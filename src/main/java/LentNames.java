@@ -1528,7 +1528,8 @@ public final class LentNames {
             steps = 0;
             spent = false;
             setEnds();
-            for (limit = 0; limit <= most() && sets == 0 && !spent; limit++) {
+            for (int all = 0; all <= most() && sets == 0 && !spent; all++) {
+                limit = all;
                 come(0);
             }
             answered = true;
