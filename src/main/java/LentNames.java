@@ -90,15 +90,15 @@ public final class LentNames {
 
     public LentNames() {
         tape = new Tape();
-        calendar = new Calendar();
-        accounts = new Accounts();
-        townReader = new TownReader(tape);
-        customReader = new CustomReader(tape);
-        planSearch = new PlanSearch();
-        secretSearch = new SecretSearch();
         kept = new Town();
         town = new Town();
         draft = new Town();
+        calendar = new Calendar(town);
+        accounts = new Accounts();
+        townReader = new TownReader(tape, draft);
+        customReader = new CustomReader(tape, draft.custom);
+        planSearch = new PlanSearch(calendar);
+        secretSearch = new SecretSearch(calendar);
         hasImage = false;
         faultAt = NONE;
         renew();
@@ -356,7 +356,7 @@ public final class LentNames {
         if (k < NONE) {
             throw new IllegalArgumentException("k is below NONE");
         }
-        planSearch.ask(town, calendar, bound);
+        planSearch.ask(bound);
         return planSearch.spent ? -2 : planSearch.part(k);
     }
 
@@ -447,7 +447,7 @@ public final class LentNames {
         if (what < -2) {
             throw new IllegalArgumentException("what is below -2");
         }
-        secretSearch.ask(town, calendar, day);
+        secretSearch.ask(day);
         if (secretSearch.spent) {
             return -3;
         }
@@ -884,8 +884,9 @@ public final class LentNames {
         private final Tape tape;
         private Town town;
 
-        TownReader(Tape tape) {
+        TownReader(Tape tape, Town draft) {
             this.tape = tape;
+            this.town = draft;
         }
 
         boolean reads(Town draft) {
@@ -1041,8 +1042,9 @@ public final class LentNames {
         private final Tape tape;
         private Custom custom;
 
-        CustomReader(Tape tape) {
+        CustomReader(Tape tape, Custom draft) {
             this.tape = tape;
+            this.custom = draft;
         }
 
         boolean reads(Custom draft) {
@@ -1178,6 +1180,7 @@ public final class LentNames {
         final int[] lender = new int[MOST_LOANS];
         final int[] endedOn = new int[MOST_LOANS];
         final int[] owed = new int[MOST_LOANS];
+        Town town;
         private final int[] bearers = new int[MOST_PEOPLE * DAYS];
         private final int[] states = new int[MOST_PEOPLE * DAYS];
         private final int[] rows = new int[MOST_PEOPLE * DAYS * MOST_IN_ROW];
@@ -1188,7 +1191,10 @@ public final class LentNames {
         private final int[] chain = new int[MOST_PEOPLE * MOST_LOANS];
         private final int[] deep = new int[MOST_PEOPLE];
         private final int[] asked = new int[ASKED];
-        private Town town;
+
+        Calendar(Town told) {
+            town = told;
+        }
 
         void live(Town told) {
             town = told;
@@ -1480,8 +1486,8 @@ public final class LentNames {
         private final int[] taken = new int[MOST_PEOPLE];
         private final int[] chosen = new int[MOST_PLANNED];
         private final int[] found = new int[MOST_PLANNED];
+        final Calendar calendar;
         Town town;
-        Calendar calendar;
         int question;
         int sets;
         boolean spent;
@@ -1494,6 +1500,11 @@ public final class LentNames {
         private int size;
         private int limit;
         private int steps;
+
+        Search(Calendar calendar) {
+            this.calendar = calendar;
+            this.town = calendar.town;
+        }
 
         /** The most MORE LOANS that are tried. */
         abstract int most();
@@ -1512,12 +1523,11 @@ public final class LentNames {
         }
 
         // An answer is kept, for the parts of one set are asked for by several calls.
-        void ask(Town ofTown, Calendar ofCalendar, int newQuestion) {
+        void ask(int newQuestion) {
             if (answered && question == newQuestion) {
                 return;
             }
-            town = ofTown;
-            calendar = ofCalendar;
+            town = calendar.town;
             question = newQuestion;
             System.arraycopy(calendar.borneDays, 0, holds, 0, holds.length);
             for (int name = 0; name < MOST_PEOPLE; name++) {
@@ -1644,6 +1654,10 @@ public final class LentNames {
 
     /** PLAN: WISHES are had, and no BODY is NAMELESS for more DAYS than the bound, which is the question. */
     private static final class PlanSearch extends Search {
+        PlanSearch(Calendar calendar) {
+            super(calendar);
+        }
+
         int most() {
             return MOST_PLANNED;
         }
@@ -1697,6 +1711,10 @@ public final class LentNames {
     /** SECRETS: all SIGHTINGS AGREE that are KNOWN by a DAY, which is the question. */
     private static final class SecretSearch extends Search {
         private int known;
+
+        SecretSearch(Calendar calendar) {
+            super(calendar);
+        }
 
         int most() {
             return MOST_SECRETS;

@@ -34,6 +34,7 @@ import java.util.List;
 import java.util.Map;
 import java.util.Set;
 import java.util.TreeSet;
+import java.util.regex.Pattern;
 import javax.lang.model.element.Element;
 import javax.lang.model.element.ElementKind;
 import javax.lang.model.element.ExecutableElement;
@@ -184,6 +185,7 @@ public final class LanguageTest extends Check {
                 holds("5: no initialiser blocks", !(member instanceof BlockTree), name);
             }
             holds("11: at most some twenty fields", fields <= MOST_FIELDS, name);
+            holdNoNull(tree, name);
             return super.visitClass(tree, none);
         }
 
@@ -289,6 +291,12 @@ public final class LanguageTest extends Check {
         }
 
         @Override
+        public Void visitLiteral(LiteralTree tree, Void none) {
+            holds("7: no reference is null", tree.getKind() != Tree.Kind.NULL_LITERAL, caller());
+            return super.visitLiteral(tree, none);
+        }
+
+        @Override
         public Void visitForLoop(ForLoopTree tree, Void none) {
             holdEnd(tree.getCondition());
             return super.visitForLoop(tree, none);
@@ -351,6 +359,23 @@ public final class LanguageTest extends Check {
 
         private static String nameOf(ExecutableElement method) {
             return method.getEnclosingElement().getSimpleName() + "." + method.getSimpleName();
+        }
+
+        /** No field is ever null: each that could be is set where it stands or in the constructor, and null is never written. */
+        private void holdNoNull(ClassTree tree, String name) {
+            StringBuilder made = new StringBuilder();
+            for (Tree member : tree.getMembers()) {
+                if (member instanceof MethodTree && ((MethodTree) member).getName().contentEquals("<init>")) {
+                    made.append(((MethodTree) member).getBody());
+                }
+            }
+            for (Tree member : tree.getMembers()) {
+                if (member instanceof VariableTree && !isNumber(((VariableTree) member).getType())) {
+                    VariableTree field = (VariableTree) member;
+                    boolean set = field.getInitializer() != null || Pattern.compile("\\b" + field.getName() + " = ").matcher(made).find();
+                    holds("7: no reference is null", set, name + "." + field.getName());
+                }
+            }
         }
 
         /** Field initialisers belong to constructors. */
