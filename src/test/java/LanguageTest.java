@@ -5,6 +5,7 @@ import com.sun.source.tree.ClassTree;
 import com.sun.source.tree.CompilationUnitTree;
 import com.sun.source.tree.CompoundAssignmentTree;
 import com.sun.source.tree.DoWhileLoopTree;
+import com.sun.source.tree.ExpressionStatementTree;
 import com.sun.source.tree.ExpressionTree;
 import com.sun.source.tree.ForLoopTree;
 import com.sun.source.tree.ImportTree;
@@ -20,6 +21,7 @@ import com.sun.source.tree.ThrowTree;
 import com.sun.source.tree.Tree;
 import com.sun.source.tree.TryTree;
 import com.sun.source.tree.TypeCastTree;
+import com.sun.source.tree.UnaryTree;
 import com.sun.source.tree.VariableTree;
 import com.sun.source.tree.WhileLoopTree;
 import com.sun.source.util.JavacTask;
@@ -299,6 +301,10 @@ public final class LanguageTest extends Check {
         @Override
         public Void visitForLoop(ForLoopTree tree, Void none) {
             holdEnd(tree.getCondition());
+            String counter = counted(tree.getUpdate());
+            boolean own = tree.getInitializer().toString().startsWith("int " + counter + " = ");
+            boolean asked = (" " + tree.getCondition()).contains(" " + counter + " ");
+            holds("9: a for loop counts a number of its own against a bound", own && asked, caller());
             return super.visitForLoop(tree, none);
         }
 
@@ -329,6 +335,14 @@ public final class LanguageTest extends Check {
             holds("7: no division (none is needed)", !divides, tree.toString());
             holds("10: no + of texts", isNumber(tree.getVariable()), tree.toString());
             return super.visitCompoundAssignment(tree, none);
+        }
+
+        private static String counted(List<? extends ExpressionStatementTree> updates) {
+            ExpressionTree update = updates.size() == 1 ? updates.get(0).getExpression() : null;
+            if (update instanceof CompoundAssignmentTree) {
+                return ((CompoundAssignmentTree) update).getVariable().toString();
+            }
+            return update instanceof UnaryTree ? ((UnaryTree) update).getExpression().toString() : "nothing";
         }
 
         private Element element() {
